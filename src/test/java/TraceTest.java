@@ -1,0 +1,143 @@
+import java.util.HashMap;
+import java.util.Map;
+
+/** Promises 15, 16 and 19: the log, the bytes sent, the counts. */
+final class TraceTest {
+    private TraceTest() {
+    }
+
+    public static void main(String[] args) {
+        rows();
+        latestThirty();
+        unlike();
+        counts();
+        Check.close();
+    }
+
+    private static void log(CardLink x, int i, int... want) {
+        for (int what = 0; what < want.length; what++) {
+            Check.due("log(" + i + ", " + what + ")", Check.log(x, i, what), want[what]);
+        }
+    }
+
+    private static void rows() {
+        CardLink x = Check.plainCard();
+        x.fault(2, 1, 0);
+        Check.message(x, 6, 0x55);
+        Check.due("step(1)", x.step(1), 2);
+        // The first block took a letter more.
+        log(x, 1, 0, 0, 2, 0, 7, 1);
+        log(x, 0, 1, 0, 2, 0, 6, 1);
+        x.step(60);
+        int[] first = {0, 0, 2, 6, 0x55, 2 ^ 6 ^ 0x55};
+        for (int k = 0; k < 6; k++) {
+            Check.due("byteOf(1, " + k + ")", x.byteOf(1, k), first[k]);
+        }
+        Check.due("byteOf(1, 6)", x.byteOf(1, 6), -1);
+        Check.due("byteOf(1, -1)", x.byteOf(1, -1), -1);
+        Check.due("byteOf(2, 0)", x.byteOf(2, 0), -1);
+        Check.due("byteOf(-1, 0)", x.byteOf(-1, 0), -1);
+        Check.due("byteOf(max, max)", x.byteOf(Integer.MAX_VALUE, Integer.MAX_VALUE), -1);
+        log(x, -1, -9, -9, -9, -9, -9, -9, -9);
+        log(x, 2, -9, -9, -9, -9, -9, -9, -9);
+        Check.due("log(0, 6)", Check.log(x, 0, 6), -9);
+        Check.due("log(0, -1)", Check.log(x, 0, -1), -9);
+        Check.due("log(min, 0)", Check.log(x, Integer.MIN_VALUE, 0), -9);
+        // The bytes are as sent, not as they came; how often the like was sent is told of the older one, too.
+        Check.message(x, 6);
+        x.fault(1, 2, 32);
+        x.step(1);
+        Check.due("byteOf(1, 1)", x.byteOf(1, 1), 64);
+        log(x, 1, 0, 64, 1, 1, 5, 1);
+        x.step(1);
+        log(x, 3, 0, 64, 1, 1, 5, 2);
+        log(x, 2, 1, 145, 0, 0, 4, 1);
+        log(x, 1, 0, 64, 1, 0, 5, 2);
+    }
+
+    private static void latestThirty() {
+        CardLink x = Check.cardOfRoom(1);
+        int[] m = new int[60];
+        for (int i = 0; i < 60; i++) {
+            m[i] = 6 + 3 * i;
+        }
+        Check.due("message of 60, room 1", Check.message(x, m), 60);
+        x.step(14);
+        Check.due("count(5)", x.count(5), 28);
+        x.step(1);
+        Check.due("count(5)", x.count(5), 30);
+        Check.due("byteOf(29, 3)", x.byteOf(29, 3), 6);
+        x.step(1);
+        Check.due("count(5)", x.count(5), 30);
+        Check.due("log(30, 0)", Check.log(x, 30, 0), -9);
+        Check.due("byteOf(29, 3)", x.byteOf(29, 3), 9);
+        for (int i = 0; i < 30; i++) {
+            int block = 31 - i;
+            Check.due("log(" + i + ", 0)", Check.log(x, i, 0), block & 1);
+            Check.due("log(" + i + ", 1)", Check.log(x, i, 1), (block & 1) == 1 ? (block & 2) == 0 ? 144 : 128 : (block & 2) == 0 ? 32 : 96);
+            Check.due("log(" + i + ", 4)", Check.log(x, i, 4), (block & 1) == 1 ? 4 : 5);
+            Check.due("log(" + i + ", 5)", Check.log(x, i, 5), (block & 1) == 1 ? 8 : 1);
+        }
+        Check.due("count(4)", x.count(4), 16 + 2);
+        x.step(60);
+        // 59 receipts of the card, the older ones out of the LOG: counted all the same.
+        Check.due("log(2, 5)", Check.log(x, 2, 5), 30);
+        Check.due("log(4, 5)", Check.log(x, 4, 5), 29);
+        Check.due("count(4)", x.count(4), 60 + 2 + 1);
+        Check.due("side(0, 9)", x.side(0, 9), 60);
+        Check.due("side(1, 9)", x.side(1, 9), 60);
+    }
+
+    /** Against a count by this test itself, over more unlike blocks than any table begins with. */
+    private static void unlike() {
+        CardLink x = Check.cardOfRoom(2);
+        Map<String, Integer> seen = new HashMap<>();
+        int left = 0;
+        int seed = 1;
+        for (int round = 0; round < 60; round++) {
+            int[] m = new int[40];
+            for (int i = 0; i < 40; i++) {
+                seed = seed * 1103515245 + 12345;
+                m[i] = seed >>> 16 & 255;
+            }
+            m[0] = 8;
+            Check.message(x, m);
+            for (int turn = 0; turn < 40 && x.state() == 1; turn++) {
+                for (int i = x.step(1) - 1; i >= 0; i--) {
+                    seen.merge(row(x, i), 1, Integer::sum);
+                }
+                Check.due("count(4)", x.count(4), seen.size());
+            }
+            for (int i = 0; i < 30 && i < x.count(5); i++) {
+                Check.due("log(" + i + ", 5)", Check.log(x, i, 5), seen.get(row(x, i)));
+            }
+            left += x.state() == 2 ? 0 : 1;
+        }
+        Check.due("messages not done", left, 0);
+        Check.due("more than 1000 unlike ones", seen.size() > 1000 ? 1 : 0, 1);
+    }
+
+    private static String row(CardLink x, int i) {
+        StringBuilder all = new StringBuilder().append(Check.log(x, i, 0));
+        for (int k = 0; k < Check.log(x, i, 2) + 4; k++) {
+            all.append(' ').append(x.byteOf(i, k));
+        }
+        return all.toString();
+    }
+
+    private static void counts() {
+        CardLink x = Check.plainCard();
+        x.fault(0, 1, 0);
+        x.fault(500, 1, 0);
+        Check.message(x);
+        x.step(60);
+        x.feed(0, 0);
+        int[] want = {9, 1, 1, 0, 2, 2, 1, 0, 1, 0, 16};
+        for (int what = 0; what <= 10; what++) {
+            Check.due("count(" + what + ")", x.count(what), want[what]);
+        }
+        for (int what : new int[] {-1, 11, Integer.MAX_VALUE, Integer.MIN_VALUE}) {
+            Check.due("count(" + what + ")", x.count(what), -1);
+        }
+    }
+}
