@@ -56,6 +56,11 @@ final class ForecastTest {
         x.room(20);
         would(x, 2, 2, 10, 1);
         x = Check.plainCard();
+        Check.message(x, 6);
+        x.step(60);
+        x.room(20);
+        would(x, 2, 2, 10, 2);
+        x = Check.plainCard();
         x.room(20);
         would(x, 2, 2, 10, -1);
         x = Check.plainCard();
@@ -89,6 +94,9 @@ final class ForecastTest {
         CardLink x = Check.plainCard();
         Check.message(x, 5, 1);
         would(x, 2, 4, 6 + 4 + 4 + 5, 1);
+        for (int what : new int[] {2, -1, Integer.MAX_VALUE, Integer.MIN_VALUE}) {
+            Check.due("harm(3, " + what + ")", x.harm(3, what), -1);
+        }
         harm(x, 1, 0, -1);
         harm(x, 2, 11, 0);
         harm(x, 3, 11, 0);
@@ -108,9 +116,6 @@ final class ForecastTest {
         harm(x, 3, 0, -1);
         for (int kind : new int[] {0, 4, -1, Integer.MAX_VALUE, Integer.MIN_VALUE}) {
             harm(x, kind, -1, -1);
-        }
-        for (int what : new int[] {2, -1, Integer.MAX_VALUE, Integer.MIN_VALUE}) {
-            Check.due("harm(1, " + what + ")", x.harm(1, what), -1);
         }
         // Done, but with another message: what the reader is told depends on a pair of turned letters.
         x = Check.plainCard();

@@ -9,6 +9,7 @@ final class TraceTest {
     public static void main(String[] args) {
         rows();
         latestThirty();
+        behindThirty();
         unlike();
         counts();
         Check.close();
@@ -86,6 +87,43 @@ final class TraceTest {
         Check.due("count(4)", x.count(4), 60 + 2 + 1);
         Check.due("side(0, 9)", x.side(0, 9), 60);
         Check.due("side(1, 9)", x.side(1, 9), 60);
+    }
+
+    /** What came and the letters of blocks behind the thirtieth, and all of it anew behind a reset. */
+    private static void behindThirty() {
+        CardLink x = Check.cardOfRoom(1);
+        int[] m = new int[60];
+        m[0] = 6;
+        Check.message(x, m);
+        x.step(16);
+        x.fault(2, 1, 0);
+        x.step(1);
+        log(x, 1, 0, 32, 1, 0, 6, 8);
+        log(x, 0, 1, 144, 0, 0, 4, 9);
+        x.fault(3, 3, 0);
+        x.fault(5, 2, 1);
+        x.step(1);
+        log(x, 1, 0, 96, 1, 2, 5, 9);
+        log(x, 0, 1, 146, 0, 1, 4, 1);
+        x.step(1);
+        log(x, 1, 0, 129, 0, 0, 4, 1);
+        log(x, 0, 1, 144, 0, 0, 4, 10);
+        Check.due("count(5)", x.count(5), 30);
+        Check.reset(x, 0x3b, 0);
+        Check.due("count(4)", x.count(4), 0);
+        Check.due("count(5)", x.count(5), 0);
+        Check.due("byteOf(0, 0)", x.byteOf(0, 0), -1);
+        x.fault(0, 3, 0);
+        Check.message(x, 6, 0);
+        x.step(1);
+        log(x, 1, 0, 0, 2, 2, 6, 1);
+        log(x, 0, 1, 130, 0, 0, 4, 1);
+        log(x, 2, -9, -9, -9, -9, -9, -9);
+        x.step(1);
+        log(x, 2, 1, 130, 0, 0, 4, 1);
+        log(x, 1, 0, 0, 2, 0, 6, 2);
+        log(x, 0, 1, 0, 2, 0, 6, 1);
+        Check.due("count(4)", x.count(4), 3);
     }
 
     /** Against a count by this test itself, over more unlike blocks than any table begins with. */

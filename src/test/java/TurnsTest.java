@@ -19,6 +19,9 @@ final class TurnsTest {
         turnedToOthers();
         longerThanRoom();
         tries();
+        resynchEmpties();
+        abortEmpties();
+        resetOnTheWay();
         dead();
         faultArguments();
         askingWrong();
@@ -546,6 +549,9 @@ final class TurnsTest {
             step(x, 60, 4);
             sent(x, "r0 c0 r130 c0");
             state(x, 2);
+            x = echoTurnedBy(kind);
+            step(x, 2, 4);
+            count(x, 3, 1);
         }
         // ABORT that the card did not ask for: its next R ends the message.
         CardLink x = echoTurnedBy(194);
@@ -646,6 +652,117 @@ final class TurnsTest {
         state(x, 3);
         count(x, 9, 1);
         side(x, 0, 2, 32);
+    }
+
+    private static void resynchEmpties() {
+        // The card has a byte of a chain when the next block fails for the third time.
+        CardLink x = Check.cardOfRoom(1);
+        x.fault(9, 3, 0);
+        x.fault(18, 3, 0);
+        x.fault(27, 3, 0);
+        Check.message(x, 6, 1, 1);
+        step(x, 4, 8);
+        side(x, 1, 5, 1);
+        side(x, 1, 1, 1);
+        side(x, 0, 4, 1);
+        step(x, 1, 2);
+        sent(x, "r32 c144 r96/2 c146 r96/2 c146 r96/2 c146 r192 c224");
+        side(x, 1, 5, 0);
+        side(x, 1, 1, 0);
+        side(x, 0, 8, 1);
+        step(x, 1, 0);
+        state(x, 3);
+        side(x, 0, 3, 0);
+        side(x, 0, 4, 0);
+        side(x, 0, 8, -1);
+        side(x, 0, 0, 0);
+        // The reader has two bytes of the answer's chain.
+        x = Check.plainCard();
+        x.room(2);
+        step(x, 2, 2);
+        x.fault(16, 3, 0);
+        x.fault(26, 3, 0);
+        x.fault(36, 3, 0);
+        Check.message(x, 1, 4);
+        step(x, 5, 10);
+        sent(x, "r0 c32 r144 c64/2 r146 c64/2 r146 c64/2 r192 c224");
+        side(x, 0, 5, 2);
+        side(x, 0, 1, 1);
+        side(x, 0, 0, 1);
+        side(x, 1, 3, 0);
+        side(x, 1, 4, 0);
+        step(x, 1, 0);
+        state(x, 3);
+        side(x, 0, 5, 0);
+        side(x, 0, 1, 0);
+        side(x, 0, 0, 0);
+        side(x, 0, 2, 2);
+        // The card asks for WAIT and is not heard: behind RESYNCH it asks no more.
+        x = Check.plainCard();
+        x.fault(7, 3, 0);
+        x.fault(16, 3, 0);
+        x.fault(25, 3, 0);
+        Check.message(x, 2, 7, 1);
+        step(x, 3, 6);
+        side(x, 1, 7, 3);
+        step(x, 60, 2);
+        sent(x, "r0 c195/2 r130 c195/2 r130 c195/2 r192 c224");
+        side(x, 1, 7, -1);
+        count(x, 7, 0);
+        state(x, 3);
+        Check.message(x, 6);
+        step(x, 60, 2);
+        sent(x, "r0 c0");
+    }
+
+    /** The reader has two bytes of an answer when R of the card comes as ABORT. */
+    private static void abortEmpties() {
+        CardLink x = Check.plainCard();
+        x.room(2);
+        step(x, 2, 2);
+        x.fault(12, 3, 0);
+        x.fault(17, 2, 146 ^ 194);
+        x.fault(19, 2, 146 ^ 194);
+        Check.message(x, 1, 4);
+        step(x, 2, 4);
+        side(x, 0, 5, 2);
+        side(x, 0, 3, 2);
+        step(x, 1, 2);
+        sent(x, "r0 c32 r144/2 c146 r226 c146");
+        side(x, 0, 5, 0);
+        side(x, 0, 3, 0);
+        side(x, 0, 4, 0);
+        step(x, 1, 0);
+        state(x, 2);
+        got(x, 0);
+    }
+
+    private static void resetOnTheWay() {
+        int[][] messages = {{5, 3}, {2, 7, 3}, {4}, {3, 9}};
+        for (int[] m : messages) {
+            CardLink x = Check.plainCard();
+            x.fault(900, 3, 0);
+            Check.message(x, m);
+            x.step(3);
+            Check.due("reset()", Check.reset(x, 0x3b, 0), 0);
+            for (int what : new int[] {0, 1, 2, 3, 4, 5, 7, 8, 9}) {
+                count(x, what, 0);
+            }
+            step(x, 1, -1);
+            Check.message(x, 6);
+            step(x, 60, 2);
+            sent(x, "r0 c0");
+            side(x, 1, 2, 32);
+        }
+        // Given up twice, then reset.
+        CardLink x = Check.plainCard();
+        for (int i = 1; i <= 2; i++) {
+            Check.message(x, 5, 2);
+            step(x, 60, 7);
+            count(x, 9, i);
+        }
+        Check.reset(x, 0x3b, 0);
+        count(x, 9, 0);
     }
 
     private static void dead() {
