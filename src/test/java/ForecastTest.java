@@ -48,6 +48,12 @@ final class ForecastTest {
         Check.due("would(-1)", x.would(-1), -1);
         x.step(1);
         would(x, 2, 4, 20, 1);
+        // The card's request again, and its answer, by the INF that it asked with.
+        CardLink y = Check.plainCard();
+        Check.message(y, 2, 7, 2, 9);
+        y.step(1);
+        y.fault(0, 3, 0);
+        would(y, 2, 6, 20 + 5 + 5, 1);
         x.fault(0, 3, 0);
         would(x, 2, 6, 20 + 5 + 5, 1);
         x.step(60);

@@ -12,6 +12,7 @@ final class ResetAnswerTest {
         linkGroup();
         checkAndHistorical();
         refusedAndAccepted();
+        oneBehindAnother();
         Check.close();
     }
 
@@ -203,6 +204,34 @@ final class ResetAnswerTest {
         fails(4, 7, 0x3b, 0x80, 0x01, 0x81, 0x00);
         fails(3, 1, 0x3b, 0x80, 0x01);
         fails(4, 1, 0x3b, 0x83, 0x01, 0x55);
+    }
+
+    /** Nothing of an earlier reset answer, good or refused, stays in a later one. */
+    private static void oneBehindAnother() {
+        CardLink x = new CardLink();
+        int[] full = checked(0x3f, 0xf1, 0x95, 0x00, 0x12, 0x81, 0x91, 0x07, 0x71, 0x08, 0x09, 0x01, 0x5a);
+        int[] linkInFour = checked(0x3b, 0x80, 0x80, 0x90, 0x00, 0x11, 0x08);
+        for (int round = 0; round < 3; round++) {
+            Check.due("reset, full", Check.reset(x, full), 1);
+            int[] want = {63, 512, 16, 0x12, 1, 4, 1, 7, 1, -1};
+            for (int what = 0; what < 10; what++) {
+                Check.due("full answer(" + what + ")", x.answer(what), want[what]);
+            }
+            Check.due("reset, refused", Check.reset(x, java.util.Arrays.copyOf(full, full.length - round)), round == 0 ? 1 : -2 - (8 * (full.length - round) + 1));
+            Check.due("historical(0)", x.historical(0), 0x5a);
+            Check.due("historical(1)", x.historical(1), -1);
+            for (int plain = 0; plain <= round; plain++) {
+                Check.due("reset, plain", Check.reset(x, 0x3b, 0x00), 0);
+                want = new int[] {59, 372, 1, 0, 0, 0, 0, 32, 0, -1};
+                for (int what = 0; what < 10; what++) {
+                    Check.due("plain answer(" + what + ")", x.answer(what), want[what]);
+                }
+                Check.due("historical(0)", x.historical(0), -1);
+            }
+            // Its group 4 is the link group, and TA of its group 3 any byte, unlike those of the full one.
+            Check.due("reset, protocol 1 by the third TD", Check.reset(x, linkInFour), 0);
+            Check.due("answer(7), group 4", x.answer(7), 8);
+        }
     }
 
     private static void refusedAndAccepted() {

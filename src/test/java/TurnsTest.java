@@ -322,6 +322,8 @@ final class TurnsTest {
         step(x, 60, 2);
         got(x, 0, 6, 4);
         Check.message(x, 255);
+        side(x, 0, 3, 1);
+        side(x, 0, 4, 0);
         step(x, 60, 2);
         got(x, 0, 255, 1);
         side(x, 1, 3, 2);
