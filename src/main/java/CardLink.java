@@ -1212,7 +1212,7 @@ public final class CardLink {
             int byLetters = wire.carry(block, came);
             outcome = judge(byLetters, to.room);
             if (journal != null) {
-                journal.note(from.number, block, outcome, wire.letters - before);
+                journal.note(journal.idOf(from.number, block), outcome, wire.letters - before);
             }
         }
 
@@ -1310,8 +1310,7 @@ public final class CardLink {
             return latest.size();
         }
 
-        void note(int side, Row block, int outcome, int letters) {
-            int id = idOf(side, block);
+        void note(int id, int outcome, int letters) {
             times.put(id, times.at(id) + 1);
             newest = newest + 1 < LATEST ? newest + 1 : 0;
             if (latest.size() < LATEST) {
@@ -1325,7 +1324,8 @@ public final class CardLink {
             }
         }
 
-        private int idOf(int side, Row block) {
+        /** The number of the like of this block; an unlike one gets the next. */
+        int idOf(int side, Row block) {
             for (int i = chains.size(); i < CHAINS; i++) {
                 chains.add(NONE);
             }
@@ -1433,7 +1433,9 @@ public final class CardLink {
         Line outlook(Line now) {
             if (!outlookKnown) {
                 outlook.copy(now);
-                outlook.run(TURNS_MOST);
+                for (int turn = 0; turn < TURNS_MOST && outlook.state == ON_WAY; turn++) {
+                    outlook.turn();
+                }
                 outlookKnown = true;
             }
             return outlook;
@@ -1452,8 +1454,9 @@ public final class CardLink {
             if (kind < 0 || kind >= tried.length || kind >= harmful.length || kind >= firsts.length || tried[kind] == 1) {
                 return;
             }
-            int found = 0;
-            int first = NONE;
+            tried[kind] = 1;
+            harmful[kind] = 0;
+            firsts[kind] = NONE;
             walk.copy(now);
             for (int turn = 0; turn < TURNS_MOST && walk.state == ON_WAY; turn++) {
                 // Before its letter a fault changes nothing, so each try starts at the turn that sends it.
@@ -1462,24 +1465,21 @@ public final class CardLink {
                 fork.turn();
                 int to = fork.wire.letters;
                 for (int letter = from; letter < to; letter++) {
-                    if (isHarmed(letter, kind, TURNS_MOST - turn)) {
-                        found++;
-                        first = first == NONE ? letter - now.wire.letters : first;
+                    fork.copy(walk);
+                    fork.wire.probe(letter, kind);
+                    for (int later = turn; later < TURNS_MOST && fork.state == ON_WAY; later++) {
+                        fork.turn();
+                    }
+                    if (forkIsHarmed()) {
+                        harmful[kind]++;
+                        firsts[kind] = firsts[kind] == NONE ? letter - now.wire.letters : firsts[kind];
                     }
                 }
                 walk.turn();
             }
-            tried[kind] = 1;
-            harmful[kind] = found;
-            firsts[kind] = first;
         }
 
-        private boolean isHarmed(int letter, int kind, int turns) {
-            fork.copy(walk);
-            fork.wire.probe(letter, kind);
-            for (int turn = 0; turn < turns && fork.state == ON_WAY; turn++) {
-                fork.turn();
-            }
+        private boolean forkIsHarmed() {
             return fork.state != DONE || !fork.reader.got.same(outlook.reader.got);
         }
     }
