@@ -1,5 +1,5 @@
 /** Promises 7 to 14: messages, rooms, faults, repeats, turns, and what the sides hold. */
-final class TurnsTest {
+final class TurnsTest extends Check {
     private TurnsTest() {
     }
 
@@ -25,65 +25,28 @@ final class TurnsTest {
         dead();
         faultArguments();
         askingWrong();
-        Check.close();
-    }
-
-    /** The latest blocks, the oldest first: side, kind, and / what came where it was not whole. */
-    private static void sent(CardLink x, String want) {
-        int many = want.split(" ").length;
-        StringBuilder got = new StringBuilder();
-        for (int i = many - 1; i >= 0; i--) {
-            int came = Check.log(x, i, 3);
-            got.append(Check.log(x, i, 0) == 0 ? "r" : "c").append(Check.log(x, i, 1));
-            got.append(came == 0 ? "" : "/" + came).append(i > 0 ? " " : "");
-        }
-        Check.due("sent " + got + ", due " + want, got.toString().equals(want) ? 1 : 0, 1);
-    }
-
-    private static void got(CardLink x, int side, int... want) {
-        Check.due("got(" + side + ", -1)", x.got(side, -1), want.length);
-        for (int i = 0; i < want.length; i++) {
-            Check.due("got(" + side + ", " + i + ")", x.got(side, i), want[i]);
-        }
-        Check.due("got behind the end", x.got(side, want.length), -2);
-        Check.due("got(" + side + ", -2)", x.got(side, -2), -2);
-    }
-
-    private static void step(CardLink x, int turns, int blocks) {
-        Check.due("step(" + turns + ")", x.step(turns), blocks);
-    }
-
-    private static void side(CardLink x, int side, int what, int want) {
-        Check.due("side(" + side + ", " + what + ")", x.side(side, what), want);
-    }
-
-    private static void count(CardLink x, int what, int want) {
-        Check.due("count(" + what + ")", x.count(what), want);
-    }
-
-    private static void state(CardLink x, int want) {
-        Check.due("state()", x.state(), want);
+        close();
     }
 
     private static void starting() {
-        CardLink x = Check.plainCard();
+        CardLink x = plainCard();
         state(x, 0);
         step(x, 1, -1);
-        Check.due("message of 61", Check.message(x, new int[61]), -1);
+        due("message of 61", message(x, new int[61]), -1);
         count(x, 10, 0);
         state(x, 0);
-        Check.due("room(0)", x.room(0), -1);
-        Check.due("room(255)", x.room(255), -1);
-        Check.due("message of 60, room 32", Check.message(x, new int[60]), 2);
+        due("room(0)", x.room(0), -1);
+        due("room(255)", x.room(255), -1);
+        due("message of 60, room 32", message(x, new int[60]), 2);
         state(x, 1);
         side(x, 0, 3, 60);
         side(x, 0, 4, 0);
         side(x, 0, 8, -1);
         side(x, 0, 6, -1);
-        Check.due("message on the way", Check.message(x, 1), -1);
+        due("message on the way", message(x, 1), -1);
         count(x, 10, 0);
         side(x, 0, 3, 60);
-        Check.due("room on the way", x.room(9), -1);
+        due("room on the way", x.room(9), -1);
         step(x, 0, -1);
         step(x, 61, -1);
         step(x, -5, -1);
@@ -91,14 +54,14 @@ final class TurnsTest {
         state(x, 2);
         got(x, 0, new int[60]);
         for (int[] pair : new int[][] {{0, 1}, {1, 1}, {7, 1}, {8, 2}, {14, 2}, {15, 3}, {60, 9}}) {
-            CardLink y = Check.cardOfRoom(7);
-            Check.due("message of " + pair[0] + ", room 7", Check.message(y, new int[pair[0]]), pair[1]);
+            CardLink y = cardOfRoom(7);
+            due("message of " + pair[0] + ", room 7", message(y, new int[pair[0]]), pair[1]);
         }
     }
 
     private static void chains() {
-        CardLink x = Check.cardOfRoom(2);
-        Check.due("message of 5, room 2", Check.message(x, 8, 1, 2, 3, 4), 3);
+        CardLink x = cardOfRoom(2);
+        due("message of 5, room 2", message(x, 8, 1, 2, 3, 4), 3);
         step(x, 1, 2);
         side(x, 0, 8, 0);
         side(x, 0, 4, 0);
@@ -136,71 +99,71 @@ final class TurnsTest {
     }
 
     private static void echoAndCounting() {
-        CardLink x = Check.plainCard();
+        CardLink x = plainCard();
         x.room(10);
         step(x, 5, 2);
-        Check.message(x, 9, 25);
+        message(x, 9, 25);
         step(x, 60, 6);
         sent(x, "r0 c32 r144 c96 r128 c0");
         got(x, 0, 0, 1, 2, 3, 4, 5, 6, 7, 8, 9, 10, 11, 12, 13, 14, 15, 16, 17, 18, 19, 20, 21, 22, 23, 24);
         side(x, 1, 3, 25);
         side(x, 1, 4, 20);
         // 61 modulo 61, and no second byte.
-        Check.message(x, 1, 61);
+        message(x, 1, 61);
         step(x, 60, 2);
         got(x, 0);
-        Check.message(x, 0xf9);
+        message(x, 0xf9);
         step(x, 60, 2);
         got(x, 0);
         got(x, 1, 0xf9);
-        Check.message(x, 1, 121);
+        message(x, 1, 121);
         step(x, 60, 12);
-        Check.due("got(0, 59)", x.got(0, 59), 59);
-        Check.message(x);
+        due("got(0, 59)", x.got(0, 59), 59);
+        message(x);
         step(x, 60, 2);
         got(x, 0);
         got(x, 1);
     }
 
     private static void waits() {
-        CardLink x = Check.plainCard();
-        Check.message(x, 2, 7, 2, 9);
+        CardLink x = plainCard();
+        message(x, 2, 7, 2, 9);
         step(x, 1, 2);
         side(x, 1, 7, 3);
         count(x, 7, 0);
-        Check.due("byteOf(0, 3)", x.byteOf(0, 3), 7);
+        due("byteOf(0, 3)", x.byteOf(0, 3), 7);
         step(x, 1, 2);
         count(x, 7, 1);
         side(x, 1, 7, 3);
         step(x, 60, 2);
         sent(x, "r0 c195 r227 c195 r227 c0");
-        Check.due("byteOf(1, 3)", x.byteOf(1, 3), 7);
+        due("byteOf(1, 3)", x.byteOf(1, 3), 7);
         count(x, 7, 2);
         side(x, 1, 7, -1);
         got(x, 0, 9);
         // None wanted: what is behind the third byte comes at once.
-        Check.message(x, 10, 7, 4, 9, 8);
+        message(x, 10, 7, 4, 9, 8);
         step(x, 60, 2);
         sent(x, "r64 c64");
         got(x, 0, 9, 8);
         // Without a second byte: once, by 1; without a third one: once.
-        Check.message(x, 2);
+        message(x, 2);
         step(x, 60, 4);
-        Check.due("byteOf(2, 3)", x.byteOf(2, 3), 1);
+        due("byteOf(2, 3)", x.byteOf(2, 3), 1);
         got(x, 0);
-        Check.message(x, 2, 0);
+        message(x, 2, 0);
         step(x, 60, 4);
-        Check.due("byteOf(2, 3)", x.byteOf(2, 3), 0);
+        due("byteOf(2, 3)", x.byteOf(2, 3), 0);
         count(x, 7, 4);
-        Check.message(x, 2, 255, 7);
+        message(x, 2, 255, 7);
         step(x, 60, 8);
         count(x, 7, 7);
         count(x, 8, 5);
     }
 
     private static void cardRoom() {
-        CardLink x = Check.plainCard();
-        Check.message(x, 3, 5);
+        CardLink x = plainCard();
+        message(x, 3, 5);
         step(x, 1, 2);
         side(x, 1, 7, 1);
         side(x, 1, 2, 32);
@@ -208,30 +171,30 @@ final class TurnsTest {
         sent(x, "r0 c193 r225 c0");
         side(x, 1, 2, 5);
         side(x, 0, 2, 32);
-        Check.due("answer(7) is the reset answer's", x.answer(7), 32);
+        due("answer(7) is the reset answer's", x.answer(7), 32);
         got(x, 0, 3);
-        Check.due("message of 11, room 5", Check.message(x, 11, 254, 0, 0, 0, 0, 0, 0, 0, 0, 0), 3);
+        due("message of 11, room 5", message(x, 11, 254, 0, 0, 0, 0, 0, 0, 0, 0, 0), 3);
         step(x, 60, 8);
         side(x, 1, 2, 254);
         got(x, 0, 11);
         for (int[] m : new int[][] {{3}, {3, 0}, {3, 255}}) {
-            Check.message(x, m);
+            message(x, m);
             step(x, 60, 4);
             side(x, 1, 2, 32);
             x.room(9);
             step(x, 2, 2);
             side(x, 1, 2, 32);
         }
-        Check.message(x, 3, 1);
+        message(x, 3, 1);
         step(x, 60, 4);
         side(x, 1, 2, 1);
     }
 
     private static void abort() {
-        CardLink x = Check.plainCard();
-        Check.message(x, 6);
+        CardLink x = plainCard();
+        message(x, 6);
         step(x, 60, 2);
-        Check.message(x, 4, 1, 1);
+        message(x, 4, 1, 1);
         step(x, 1, 2);
         side(x, 1, 7, 2);
         side(x, 0, 3, 3);
@@ -253,7 +216,7 @@ final class TurnsTest {
         // It is told since the latest message() alone: the next R is an ordinary one.
         x.fault(1, 2, 64);
         x.fault(3, 2, 64);
-        Check.message(x);
+        message(x);
         step(x, 60, 4);
         sent(x, "r0 c130 r0 c64");
         got(x, 0);
@@ -261,8 +224,8 @@ final class TurnsTest {
     }
 
     private static void silence() {
-        CardLink x = Check.plainCard();
-        Check.message(x, 5);
+        CardLink x = plainCard();
+        message(x, 5);
         step(x, 1, 1);
         count(x, 3, 0);
         step(x, 1, 2);
@@ -272,14 +235,14 @@ final class TurnsTest {
         count(x, 3, 0);
         state(x, 2);
         got(x, 0, 5);
-        x = Check.plainCard();
-        Check.message(x, 13, 5);
+        x = plainCard();
+        message(x, 13, 5);
         step(x, 60, 4);
         sent(x, "r0 r130 r130 c0");
         got(x, 0, 13);
         // One turn more: the third try is a resynchronising one, and the card does not look at it.
-        x = Check.plainCard();
-        Check.message(x, 5, 2);
+        x = plainCard();
+        message(x, 5, 2);
         step(x, 3, 3);
         count(x, 3, 2);
         side(x, 0, 7, -1);
@@ -303,25 +266,25 @@ final class TurnsTest {
         side(x, 0, 0, 0);
         side(x, 1, 1, 0);
         got(x, 1, 5, 2);
-        Check.due("got(0, -1): none came", x.got(0, -1), -2);
+        due("got(0, -1): none came", x.got(0, -1), -2);
         // Given up: another message may be sent.
-        Check.message(x, 6);
+        message(x, 6);
         step(x, 60, 2);
         state(x, 2);
         got(x, 0, 6, 1);
-        x = Check.plainCard();
-        Check.message(x, 5, 3);
+        x = plainCard();
+        message(x, 5, 3);
         step(x, 60, 8);
         sent(x, "r0 r130 r130 r192 r192 c0 r192 c224");
         state(x, 3);
     }
 
     private static void twoBytes() {
-        CardLink x = Check.plainCard();
-        Check.message(x, 6, 1, 1, 1);
+        CardLink x = plainCard();
+        message(x, 6, 1, 1, 1);
         step(x, 60, 2);
         got(x, 0, 6, 4);
-        Check.message(x, 255);
+        message(x, 255);
         side(x, 0, 3, 1);
         side(x, 0, 4, 0);
         step(x, 60, 2);
@@ -330,8 +293,8 @@ final class TurnsTest {
     }
 
     private static void readerRoom() {
-        CardLink x = Check.plainCard();
-        Check.due("room(254)", x.room(254), 1);
+        CardLink x = plainCard();
+        due("room(254)", x.room(254), 1);
         state(x, 1);
         side(x, 0, 2, 32);
         side(x, 0, 7, -1);
@@ -343,7 +306,7 @@ final class TurnsTest {
         state(x, 2);
         side(x, 0, 7, -1);
         side(x, 0, 10, 0);
-        Check.due("got(0, -1)", x.got(0, -1), -2);
+        due("got(0, -1)", x.got(0, -1), -2);
         // The response by another room (letters 5 to 9) is none to this request.
         x.fault(5 + 3, 2, 2);
         x.fault(5 + 4, 2, 2);
@@ -366,42 +329,42 @@ final class TurnsTest {
     }
 
     private static void spoilt() {
-        CardLink x = Check.plainCard();
+        CardLink x = plainCard();
         x.fault(0, 1, 0);
         x.fault(3, 1, 0);
-        Check.message(x, 6);
+        message(x, 6);
         step(x, 60, 2);
         sent(x, "r0 c0");
-        Check.due("log(1, 4)", Check.log(x, 1, 4), 7);
+        due("log(1, 4)", log(x, 1, 4), 7);
         count(x, 0, 7 + 6);
         count(x, 1, 2);
         // Spoilt once more than REPEATS: it comes so.
         for (int repeats = 0; repeats <= 3; repeats++) {
-            x = Check.plainCard();
+            x = plainCard();
             x.repeats(repeats);
             for (int i = 0; i <= repeats; i++) {
                 x.fault(2 + i, 1, 0);
             }
-            Check.message(x, 6);
+            message(x, 6);
             step(x, 1, 2);
             sent(x, "r0/1 c129");
-            Check.due("log(1, 4)", Check.log(x, 1, 4), 5 + repeats);
+            due("log(1, 4)", log(x, 1, 4), 5 + repeats);
             count(x, 1, repeats);
             step(x, 60, 2);
             sent(x, "r0/1 c129 r0 c0");
             got(x, 1, 6);
         }
         // What is sent again may be lost or turned.
-        x = Check.plainCard();
+        x = plainCard();
         x.fault(1, 1, 0);
         x.fault(2, 3, 0);
-        Check.message(x, 6);
+        message(x, 6);
         step(x, 1, 2);
         sent(x, "r0/2 c130");
-        x = Check.plainCard();
+        x = plainCard();
         x.fault(1, 1, 0);
         x.fault(2, 2, 8);
-        Check.message(x, 6);
+        message(x, 6);
         step(x, 1, 2);
         sent(x, "r0/1 c129");
         count(x, 2, 0);
@@ -411,59 +374,59 @@ final class TurnsTest {
         // NAD, KIND, INF, CHECK: the check is another one; LEN: not as many bytes as it tells.
         int[] came = {1, 1, 2, 1, 1};
         for (int letter = 0; letter < 5; letter++) {
-            CardLink x = Check.plainCard();
+            CardLink x = plainCard();
             x.fault(letter, 2, 255);
-            Check.message(x, 6);
+            message(x, 6);
             step(x, 1, 2);
             sent(x, "r0/" + came[letter] + " c" + (128 + came[letter]));
             step(x, 60, 2);
             got(x, 1, 6);
         }
         // A check that is right again, but NAD is not 0.
-        CardLink x = Check.plainCard();
+        CardLink x = plainCard();
         x.fault(0, 2, 4);
         x.fault(4, 2, 4);
-        Check.message(x, 6);
+        message(x, 6);
         step(x, 1, 2);
         sent(x, "r0/2 c130");
         // Another INF comes whole.
-        x = Check.plainCard();
+        x = plainCard();
         x.fault(3, 2, 1);
         x.fault(4, 2, 1);
-        Check.message(x, 6);
+        message(x, 6);
         step(x, 60, 2);
         got(x, 1, 7);
         got(x, 0, 7, 1);
         // LEN counts more than parity and check, parity more than the kind.
-        x = Check.plainCard();
+        x = plainCard();
         x.repeats(0);
         x.fault(0, 1, 0);
         x.fault(2, 2, 3);
-        Check.message(x, 6);
+        message(x, 6);
         step(x, 1, 2);
         sent(x, "r0/2 c130");
-        x = Check.plainCard();
+        x = plainCard();
         x.repeats(0);
         x.fault(0, 1, 0);
         x.fault(1, 2, 1);
         x.fault(4, 2, 1);
-        Check.message(x, 6);
+        message(x, 6);
         step(x, 1, 2);
         sent(x, "r0/1 c129");
     }
 
     private static void lost() {
-        CardLink x = Check.plainCard();
+        CardLink x = plainCard();
         x.fault(3, 3, 0);
-        Check.message(x);
+        message(x);
         step(x, 60, 4);
         sent(x, "r0/2 c130 r0 c0");
         // All letters lost: the card got nothing and sends nothing.
-        x = Check.plainCard();
+        x = plainCard();
         for (int i = 0; i < 4; i++) {
             x.fault(i, 3, 0);
         }
-        Check.message(x);
+        message(x);
         step(x, 1, 1);
         sent(x, "r0/3");
         step(x, 1, 2);
@@ -473,18 +436,18 @@ final class TurnsTest {
         sent(x, "r0/3 r130 c128 r0 c0");
         state(x, 2);
         // The card's block lost: R with the reader's WANTED, and it is sent again.
-        x = Check.plainCard();
+        x = plainCard();
         for (int i = 4; i < 8; i++) {
             x.fault(i, 3, 0);
         }
-        Check.message(x);
+        message(x);
         step(x, 60, 4);
         sent(x, "r0 c0/3 r130 c0");
         count(x, 8, 1);
         // The request of the card lost: it asks again when R comes.
-        x = Check.plainCard();
+        x = plainCard();
         x.fault(6, 3, 0);
-        Check.message(x, 4);
+        message(x, 4);
         step(x, 60, 6);
         sent(x, "r0 c194/2 r130 c194 r226 c144");
     }
@@ -514,8 +477,8 @@ final class TurnsTest {
         sent(x, "r0 c144 r128 c144 r128 c144 r128 c144");
         count(x, 3, 0);
         side(x, 0, 8, -1);
-        Check.due("would(0)", x.would(0), 1);
-        Check.due("would(1)", x.would(1), 800);
+        due("would(0)", x.would(0), 1);
+        due("would(1)", x.would(1), 800);
         // RESYNCH to the card: the reader asked for none.
         x = emptyTurnedTo(192);
         step(x, 60, 6);
@@ -577,39 +540,39 @@ final class TurnsTest {
     }
 
     private static CardLink echoTurnedBy(int bits) {
-        CardLink x = Check.plainCard();
+        CardLink x = plainCard();
         x.fault(5, 2, bits);
         x.fault(7, 2, bits);
-        Check.message(x);
+        message(x);
         return x;
     }
 
     private static CardLink emptyTurnedTo(int kind) {
-        CardLink x = Check.plainCard();
+        CardLink x = plainCard();
         x.fault(1, 2, kind);
         x.fault(3, 2, kind);
-        Check.message(x);
+        message(x);
         return x;
     }
 
     private static CardLink oneByteTurnedTo(int kind, int inf) {
-        CardLink x = Check.plainCard();
+        CardLink x = plainCard();
         x.fault(1, 2, kind);
         x.fault(4, 2, kind);
-        Check.message(x, inf);
+        message(x, inf);
         return x;
     }
 
     private static void longerThanRoom() {
-        CardLink x = Check.plainCard();
-        Check.message(x, 1, 25);
+        CardLink x = plainCard();
+        message(x, 1, 25);
         step(x, 60, 2);
         x.room(10);
         step(x, 60, 2);
         // The next I block comes as R by the number of the card's pending block.
         x.fault(1, 2, 64 ^ 128);
         x.fault(3, 2, 64 ^ 128);
-        Check.message(x);
+        message(x);
         step(x, 60, 6);
         sent(x, "r64 c0/2 r146 c144 r64 c64");
         got(x, 0);
@@ -618,11 +581,11 @@ final class TurnsTest {
 
     private static void tries() {
         // Three blocks of the reader lost in part, one behind another: the third try resynchronises.
-        CardLink x = Check.plainCard();
+        CardLink x = plainCard();
         x.fault(0, 3, 0);
         x.fault(9, 3, 0);
         x.fault(18, 3, 0);
-        Check.message(x, 6);
+        message(x, 6);
         step(x, 1, 2);
         count(x, 3, 0);
         step(x, 1, 2);
@@ -635,16 +598,16 @@ final class TurnsTest {
         step(x, 1, 0);
         state(x, 3);
         // A good turn between them begins anew.
-        x = Check.cardOfRoom(1);
+        x = cardOfRoom(1);
         x.fault(0, 3, 0);
         x.fault(9, 3, 0);
         x.fault(27, 3, 0);
-        Check.message(x, 6, 1, 1);
+        message(x, 6, 1, 1);
         step(x, 60, 12);
         sent(x, "r32/2 c130 r32/2 c130 r32 c144 r96/2 c146 r96 c128 r0 c0");
         state(x, 2);
         // The room that was asked is asked no more behind RESYNCH.
-        x = Check.plainCard();
+        x = plainCard();
         x.fault(0, 3, 0);
         x.fault(9, 3, 0);
         x.fault(18, 3, 0);
@@ -658,11 +621,11 @@ final class TurnsTest {
 
     private static void resynchEmpties() {
         // The card has a byte of a chain when the next block fails for the third time.
-        CardLink x = Check.cardOfRoom(1);
+        CardLink x = cardOfRoom(1);
         x.fault(9, 3, 0);
         x.fault(18, 3, 0);
         x.fault(27, 3, 0);
-        Check.message(x, 6, 1, 1);
+        message(x, 6, 1, 1);
         step(x, 4, 8);
         side(x, 1, 5, 1);
         side(x, 1, 1, 1);
@@ -679,13 +642,13 @@ final class TurnsTest {
         side(x, 0, 8, -1);
         side(x, 0, 0, 0);
         // The reader has two bytes of the answer's chain.
-        x = Check.plainCard();
+        x = plainCard();
         x.room(2);
         step(x, 2, 2);
         x.fault(16, 3, 0);
         x.fault(26, 3, 0);
         x.fault(36, 3, 0);
-        Check.message(x, 1, 4);
+        message(x, 1, 4);
         step(x, 5, 10);
         sent(x, "r0 c32 r144 c64/2 r146 c64/2 r146 c64/2 r192 c224");
         side(x, 0, 5, 2);
@@ -700,11 +663,11 @@ final class TurnsTest {
         side(x, 0, 0, 0);
         side(x, 0, 2, 2);
         // The card asks for WAIT and is not heard: behind RESYNCH it asks no more.
-        x = Check.plainCard();
+        x = plainCard();
         x.fault(7, 3, 0);
         x.fault(16, 3, 0);
         x.fault(25, 3, 0);
-        Check.message(x, 2, 7, 1);
+        message(x, 2, 7, 1);
         step(x, 3, 6);
         side(x, 1, 7, 3);
         step(x, 60, 2);
@@ -712,20 +675,20 @@ final class TurnsTest {
         side(x, 1, 7, -1);
         count(x, 7, 0);
         state(x, 3);
-        Check.message(x, 6);
+        message(x, 6);
         step(x, 60, 2);
         sent(x, "r0 c0");
     }
 
     /** The reader has two bytes of an answer when R of the card comes as ABORT. */
     private static void abortEmpties() {
-        CardLink x = Check.plainCard();
+        CardLink x = plainCard();
         x.room(2);
         step(x, 2, 2);
         x.fault(12, 3, 0);
         x.fault(17, 2, 146 ^ 194);
         x.fault(19, 2, 146 ^ 194);
-        Check.message(x, 1, 4);
+        message(x, 1, 4);
         step(x, 2, 4);
         side(x, 0, 5, 2);
         side(x, 0, 3, 2);
@@ -742,34 +705,34 @@ final class TurnsTest {
     private static void resetOnTheWay() {
         int[][] messages = {{5, 3}, {2, 7, 3}, {4}, {3, 9}};
         for (int[] m : messages) {
-            CardLink x = Check.plainCard();
+            CardLink x = plainCard();
             x.fault(900, 3, 0);
-            Check.message(x, m);
+            message(x, m);
             x.step(3);
-            Check.due("reset()", Check.reset(x, 0x3b, 0), 0);
+            due("reset()", reset(x, 0x3b, 0), 0);
             for (int what : new int[] {0, 1, 2, 3, 4, 5, 7, 8, 9}) {
                 count(x, what, 0);
             }
             step(x, 1, -1);
-            Check.message(x, 6);
+            message(x, 6);
             step(x, 60, 2);
             sent(x, "r0 c0");
             side(x, 1, 2, 32);
         }
         // Given up twice, then reset.
-        CardLink x = Check.plainCard();
+        CardLink x = plainCard();
         for (int i = 1; i <= 2; i++) {
-            Check.message(x, 5, 2);
+            message(x, 5, 2);
             step(x, 60, 7);
             count(x, 9, i);
         }
-        Check.reset(x, 0x3b, 0);
+        reset(x, 0x3b, 0);
         count(x, 9, 0);
     }
 
     private static void dead() {
-        CardLink x = Check.plainCard();
-        Check.message(x, 5, 3);
+        CardLink x = plainCard();
+        message(x, 5, 3);
         x.fault(6 + 4 + 4 + 4 + 4 + 5 + 4, 3, 0);
         step(x, 60, 8);
         sent(x, "r0 r130 r130 r192 r192 c0 r192 c224/2");
@@ -779,51 +742,51 @@ final class TurnsTest {
         count(x, 9, 0);
         side(x, 0, 7, 0);
         side(x, 0, 3, 2);
-        Check.due("message() of the dead", Check.message(x, 1), -1);
+        due("message() of the dead", message(x, 1), -1);
         count(x, 10, 0);
-        Check.due("room(5) of the dead", x.room(5), -1);
+        due("room(5) of the dead", x.room(5), -1);
         step(x, 1, -1);
-        Check.due("would(0) of the dead", x.would(0), -1);
-        Check.due("fault of the dead", x.fault(0, 1, 0), 1);
-        Check.due("reset()", Check.reset(x, 0x3b, 0), 0);
+        due("would(0) of the dead", x.would(0), -1);
+        due("fault of the dead", x.fault(0, 1, 0), 1);
+        due("reset()", reset(x, 0x3b, 0), 0);
         state(x, 0);
-        Check.due("message()", Check.message(x, 1), 1);
+        due("message()", message(x, 1), 1);
     }
 
     private static void faultArguments() {
-        CardLink x = Check.plainCard();
+        CardLink x = plainCard();
         int[][] wrong = {{-1, 1, 0}, {1000, 1, 0}, {0, 0, 0}, {0, 4, 0}, {0, -1, 0}, {0, 1, 1}, {0, 3, 255}, {0, 1, -1},
             {0, 2, 0}, {0, 2, 256}, {0, 2, -1}};
         for (int[] w : wrong) {
-            Check.due("fault(" + w[0] + ", " + w[1] + ", " + w[2] + ")", x.fault(w[0], w[1], w[2]), -1);
+            due("fault(" + w[0] + ", " + w[1] + ", " + w[2] + ")", x.fault(w[0], w[1], w[2]), -1);
         }
         count(x, 2, 0);
-        Check.due("fault(999, 2, 255)", x.fault(999, 2, 255), 1);
-        Check.due("fault(0, 2, 1)", x.fault(0, 2, 1), 2);
-        Check.due("fault(0, 1, 0) in its place", x.fault(0, 1, 0), 2);
+        due("fault(999, 2, 255)", x.fault(999, 2, 255), 1);
+        due("fault(0, 2, 1)", x.fault(0, 2, 1), 2);
+        due("fault(0, 1, 0) in its place", x.fault(0, 1, 0), 2);
         for (int i = 2; i < 24; i++) {
-            Check.due("fault " + i, x.fault(1000 - 40 * i, 3, 0), i + 1);
+            due("fault " + i, x.fault(1000 - 40 * i, 3, 0), i + 1);
         }
-        Check.due("fault, 24 there are", x.fault(5, 3, 0), -1);
+        due("fault, 24 there are", x.fault(5, 3, 0), -1);
         count(x, 2, 24);
         // One comes and is there no more; letters count on from the next one.
-        Check.message(x);
+        message(x);
         step(x, 60, 2);
         count(x, 2, 23);
         count(x, 0, 9);
-        Check.due("fault(0, 3, 0)", x.fault(0, 3, 0), 24);
-        Check.message(x);
+        due("fault(0, 3, 0)", x.fault(0, 3, 0), 24);
+        message(x);
         step(x, 1, 2);
         sent(x, "r64/2 c146");
-        Check.due("repeats(-1)", x.repeats(-1), -1);
-        Check.due("repeats(4)", x.repeats(4), -1);
-        Check.due("repeats(2)", x.repeats(2), 1);
+        due("repeats(-1)", x.repeats(-1), -1);
+        due("repeats(4)", x.repeats(4), -1);
+        due("repeats(2)", x.repeats(2), 1);
         count(x, 6, 2);
     }
 
     private static void askingWrong() {
-        CardLink x = Check.plainCard();
-        Check.message(x, 6);
+        CardLink x = plainCard();
+        message(x, 6);
         step(x, 60, 2);
         for (int what : new int[] {-1, 11, Integer.MAX_VALUE, Integer.MIN_VALUE}) {
             side(x, 0, what, -2);
@@ -831,9 +794,9 @@ final class TurnsTest {
         }
         for (int side : new int[] {-1, 2, Integer.MAX_VALUE, Integer.MIN_VALUE}) {
             side(x, side, 0, -2);
-            Check.due("got(" + side + ", -1)", x.got(side, -1), -2);
+            due("got(" + side + ", -1)", x.got(side, -1), -2);
         }
-        Check.due("got(0, max)", x.got(0, Integer.MAX_VALUE), -2);
-        Check.due("got(0, min)", x.got(0, Integer.MIN_VALUE), -2);
+        due("got(0, max)", x.got(0, Integer.MAX_VALUE), -2);
+        due("got(0, min)", x.got(0, Integer.MIN_VALUE), -2);
     }
 }
