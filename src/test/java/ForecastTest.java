@@ -10,6 +10,12 @@ final class ForecastTest {
         byHand();
         inPlaceOfOneTold();
         notDone();
+        anotherMessage();
+        whatIsAskedAlready();
+        noMessageThen();
+        sentAgain();
+        fullOfFaults();
+        arguments();
         questionsChangeNothing();
         againstTrying();
         Check.close();
@@ -89,9 +95,16 @@ final class ForecastTest {
         Check.message(x);
         would(x, 1, 800, 3200, -1);
         harm(x, 1, -1, -1);
-        x.step(60);
+        Check.due("step(60)", x.step(60), 120);
         would(x, 1, 800, 3200, -1);
         x.fault(0, 3, 0);
+        would(x, 1, 800, 3200, -1);
+        // A message that came before is none then: it is not done.
+        x = Check.plainCard();
+        Check.message(x, 6);
+        x.step(60);
+        Check.forge(x, 1, 3, 32);
+        Check.message(x);
         would(x, 1, 800, 3200, -1);
     }
 
@@ -141,6 +154,128 @@ final class ForecastTest {
         // Letter 0, spoilt as told, is one of those at which a lost one harms.
         harm(x, 3, 12, 0);
         harm(x, 1, 1, 1);
+    }
+
+    /** The CHECK is turned as told; with INF turned alike the message comes whole, as another one, and so does the answer. */
+    private static void anotherMessage() {
+        CardLink x = Check.plainCard();
+        x.fault(5, 2, 1);
+        Check.message(x, 8, 2);
+        would(x, 2, 4, 6 + 4 + 6 + 6, 2);
+        harm(x, 2, 2, 3);
+        harm(x, 1, 0, -1);
+        harm(x, 3, 0, -1);
+        // By other bits than 1 no single one mends the CHECK.
+        x = Check.plainCard();
+        x.fault(5, 2, 2);
+        Check.message(x, 8, 2);
+        would(x, 2, 4, 6 + 4 + 6 + 6, 2);
+        harm(x, 2, 0, -1);
+        // The answer alone comes as another one: of as many bytes.
+        x = Check.plainCard();
+        x.fault(11, 2, 1);
+        Check.message(x, 8, 2);
+        harm(x, 2, 2, 9);
+    }
+
+    /** Asked in the middle of what is going on, by an object that was asked nothing before. */
+    private static void whatIsAskedAlready() {
+        for (int turns = 1; turns <= 3; turns++) {
+            CardLink x = Check.plainCard();
+            Check.message(x, 2, 7, 2, 9);
+            x.step(turns);
+            would(x, 2, 6 - 2 * turns, turns == 3 ? 0 : 30 - 10 * turns, 1);
+            harm(x, 3, 0, -1);
+            x = Check.plainCard();
+            x.room(7);
+            x.step(1);
+            would(x, 2, 0, 0, -1);
+            harm(x, 3, 0, -1);
+        }
+        for (int turns = 4; turns <= 5; turns++) {
+            CardLink x = Check.plainCard();
+            Check.message(x, 5, 2);
+            x.step(turns);
+            would(x, 3, turns == 4 ? 2 : 0, turns == 4 ? 8 : 0, -1);
+            harm(x, 3, -1, -1);
+        }
+    }
+
+    private static void noMessageThen() {
+        // Given up, dead: none, though one had come before.
+        for (int second = 2; second <= 3; second++) {
+            CardLink x = Check.plainCard();
+            Check.message(x, 6);
+            x.step(60);
+            Check.message(x, 5, second);
+            if (second == 3) {
+                x.fault(31, 3, 0);
+            }
+            would(x, second + 1, second == 2 ? 7 : 8, second == 2 ? 31 : 35, -1);
+            harm(x, 1, -1, -1);
+            harm(x, 2, -1, -1);
+            harm(x, 3, -1, -1);
+        }
+        // Done by an empty message is a message of no bytes, by a room none.
+        CardLink x = Check.plainCard();
+        Check.message(x, 4);
+        would(x, 2, 4, 5 + 4 + 4 + 4, 0);
+        x = Check.plainCard();
+        x.room(254);
+        would(x, 2, 2, 10, -1);
+        harm(x, 3, 0, -1);
+    }
+
+    /** LETTERS sent again are among those of WOULD, and are letters that HARM tries. */
+    private static void sentAgain() {
+        CardLink x = Check.plainCard();
+        Check.message(x, 6);
+        would(x, 2, 2, 5 + 6, 2);
+        x.fault(0, 1, 0);
+        would(x, 2, 2, 5 + 1 + 6, 2);
+        // Spoilt, then turned: the block is broken.
+        x.fault(1, 2, 1);
+        would(x, 2, 4, 5 + 1 + 4 + 5 + 6, 2);
+        x = Check.plainCard();
+        Check.message(x, 5, 1);
+        x.fault(2, 1, 0);
+        would(x, 2, 4, 20, 1);
+        harm(x, 3, 12, 0);
+        // The letter ahead of it, sent again as the one that is told, or the one that is sent again: once too often by REPEATS 1.
+        harm(x, 1, 2, 1);
+        x.repeats(2);
+        harm(x, 1, 0, -1);
+    }
+
+    /** 24 FAULTS are told; a single one besides them is tried all the same. */
+    private static void fullOfFaults() {
+        CardLink x = Check.plainCard();
+        for (int i = 0; i < 24; i++) {
+            Check.due("fault", x.fault(950 + i, 3, 0), i + 1);
+        }
+        Check.message(x, 5, 1);
+        would(x, 2, 4, 19, 1);
+        harm(x, 1, 0, -1);
+        harm(x, 2, 11, 0);
+        harm(x, 3, 11, 0);
+        Check.due("count(2)", x.count(2), 24);
+    }
+
+    private static void arguments() {
+        CardLink x = Check.plainCard();
+        Check.message(x, 5, 1);
+        for (int kind = -2; kind <= 6; kind++) {
+            for (int what = -2; what <= 4; what++) {
+                int want = kind < 1 || kind > 3 || what < 0 || what > 1 ? -1 : kind == 1 ? -what : what == 0 ? 11 : 0;
+                Check.due("harm(" + kind + ", " + what + ")", x.harm(kind, what), want);
+            }
+        }
+        int[] want = {-1, -1, 2, 4, 19, 1, -1, -1};
+        for (int what = -2; what <= 5; what++) {
+            Check.due("would(" + what + ")", x.would(what), want[what + 2]);
+        }
+        Check.due("would(max)", x.would(Integer.MAX_VALUE), -1);
+        Check.due("would(min)", x.would(Integer.MIN_VALUE), -1);
     }
 
     private static void notDone() {

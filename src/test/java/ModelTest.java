@@ -17,7 +17,67 @@ final class ModelTest {
         for (int seed = 1; seed <= 3000; seed++) {
             new ModelTest(seed).run(seed);
         }
+        everyForgedKind();
         Check.close();
+    }
+
+    /** Each of the first blocks of an exchange comes as each other kind, its check right; LEN and INF stay. */
+    private static void everyForgedKind() {
+        int[][] messages = {{}, {6}, {8, 1, 2, 3, 4}, {1, 7}, {2, 7, 2, 9}, {3, 9}, {4}, {4, 1, 1, 1, 1}, {5, 1}, {5, 2}};
+        for (int[] message : messages) {
+            for (int rooms = 0; rooms < 4; rooms++) {
+                CardLink plain = exchange(message, rooms).real;
+                int blocks = Math.min(8, plain.step(20));
+                int letter = 0;
+                for (int i = plain.count(5) - 2 * (rooms & 1) - 1; i >= 0 && blocks > 0; i--) {
+                    int check = letter + Check.log(plain, i, 2) + 3;
+                    for (int bits = 1; bits < 256; bits++) {
+                        ModelTest x = exchange(message, rooms);
+                        x.fault(letter + 1, 2, bits);
+                        x.fault(check, 2, bits);
+                        x.follow();
+                    }
+                    letter = check + 1;
+                    blocks--;
+                }
+            }
+        }
+    }
+
+    /** A message on its way; the reader's room is 2 by the lower bit of rooms, the card's by the upper one. */
+    private static ModelTest exchange(int[] message, int rooms) {
+        ModelTest x = new ModelTest(rooms);
+        x.feed(rooms > 1 ? new int[] {0x3b, 0x80, 0x81, 0x11, 2, 0x80 ^ 0x81 ^ 0x11 ^ 2} : new int[] {0x3b, 0});
+        x.both("reset()", x.real.reset(), x.model.reset());
+        if ((rooms & 1) == 1) {
+            x.both("room(2)", x.real.room(2), x.model.room(2));
+            x.both("step(2)", x.real.step(2), x.model.step(2));
+        }
+        x.feed(message);
+        x.both("message()", x.real.message(), x.model.message());
+        return x;
+    }
+
+    private void follow() {
+        both("would(0)", real.would(0), model.would(0));
+        both("would(1)", real.would(1), model.would(1));
+        for (int turn = 0; turn < 10 && model.state() == 1; turn++) {
+            both("step(1)", real.step(1), model.step(1));
+            both("count(3)", real.count(3), model.count(3));
+            both("log(0, 1)", Check.log(real, 0, 1), model.log(0, 1));
+            both("log(0, 3)", Check.log(real, 0, 3), model.log(0, 3));
+            both("log(1, 3)", Check.log(real, 1, 3), model.link.log.size() > 1 ? model.log(1, 3) : -9);
+            for (int side = 0; side < 2; side++) {
+                for (int what : new int[] {0, 1, 2, 3, 4, 5, 7, 8, 10}) {
+                    both("side(" + side + ", " + what + ")", real.side(side, what), model.side(side, what));
+                }
+            }
+        }
+        both("state()", real.state(), model.state());
+        for (int i = -1; i < 6; i++) {
+            both("got(0, " + i + ")", real.got(0, i), model.got(0, i));
+            both("got(1, " + i + ")", real.got(1, i), model.got(1, i));
+        }
     }
 
     private void run(int seed) {
@@ -68,6 +128,9 @@ final class ModelTest {
             both("feed(" + a + ", " + b + ")", real.feed(a, b), model.feed(a, b));
         }
         both("end(" + bytes.length + ")", real.end(bytes.length), model.end(bytes.length));
+    }
+
+    private void endAnyhow() {
         if (random.nextInt(30) == 0) {
             int n = random.nextInt(100) - 2;
             both("end(" + n + ")", real.end(n), model.end(n));
@@ -87,6 +150,7 @@ final class ModelTest {
             return;
         }
         feed(resetAnswer());
+        endAnyhow();
         both("reset()", real.reset(), model.reset());
         for (int what = -1; what < 10; what++) {
             if (random.nextInt(3) == 0) {
@@ -153,6 +217,7 @@ final class ModelTest {
             java.util.Arrays.fill(b, 1, b.length, random.nextInt(3));
         }
         feed(b);
+        endAnyhow();
         both("message()", real.message(), model.message());
     }
 

@@ -10,7 +10,9 @@ final class TraceTest {
         rows();
         latestThirty();
         behindThirty();
+        growing();
         unlike();
+        likeBlocks();
         counts();
         Check.close();
     }
@@ -124,6 +126,69 @@ final class TraceTest {
         log(x, 1, 0, 0, 2, 0, 6, 2);
         log(x, 0, 1, 0, 2, 0, 6, 1);
         Check.due("count(4)", x.count(4), 3);
+    }
+
+    /** From the first block to the thirtieth and beyond: the oldest that is kept, the first that is not, the bytes' ends. */
+    private static void growing() {
+        CardLink x = Check.cardOfRoom(3);
+        int[] m = new int[60];
+        m[0] = 8;
+        Check.due("log(0, 0): none", Check.log(x, 0, 0), -9);
+        Check.due("byteOf(0, 0): none", x.byteOf(0, 0), -1);
+        Check.message(x, m);
+        for (int turn = 1; turn <= 20; turn++) {
+            Check.due("step(1)", x.step(1), 2);
+            int kept = Math.min(30, 2 * turn);
+            Check.due("count(5)", x.count(5), kept);
+            for (int what = 0; what <= 5; what++) {
+                Check.due("log(" + kept + ", " + what + ")", Check.log(x, kept, what), -9);
+                Check.due("log(-1, " + what + ")", Check.log(x, -1, what), -9);
+            }
+            Check.due("byteOf(" + kept + ", 0)", x.byteOf(kept, 0), -1);
+            Check.due("byteOf(-1, 0)", x.byteOf(-1, 0), -1);
+            for (int i = 0; i < kept; i++) {
+                int block = 2 * turn - 1 - i;
+                int len = block % 2 == 0 || block == 39 ? block == 39 ? 32 : 3 : 0;
+                Check.due("log(" + i + ", 0)", Check.log(x, i, 0), block % 2);
+                Check.due("log(" + i + ", 2)", Check.log(x, i, 2), len);
+                Check.due("log(" + i + ", 4)", Check.log(x, i, 4), len + 4);
+                Check.due("log(" + i + ", -1)", Check.log(x, i, -1), -9);
+                Check.due("log(" + i + ", 6)", Check.log(x, i, 6), -9);
+                Check.due("byteOf(" + i + ", -1)", x.byteOf(i, -1), -1);
+                Check.due("byteOf(" + i + ", " + len + " + 4)", x.byteOf(i, len + 4), -1);
+                int check = 0;
+                for (int k = 0; k < len + 3; k++) {
+                    check ^= x.byteOf(i, k);
+                }
+                Check.due("byteOf(" + i + ", " + len + " + 3)", x.byteOf(i, len + 3), check);
+            }
+        }
+    }
+
+    /** The like is of the same side and of the same bytes: echoes of one message, and of one that differs in its last byte. */
+    private static void likeBlocks() {
+        CardLink x = Check.plainCard();
+        int[][] messages = {{8, 1, 1}, {8, 1, 2}, {8, 1, 1}, {8, 1, 2}, {8, 1, 1}, {8, 1}, {8, 1, 1}, {8, 1, 1}};
+        // By turns of NUMBER 0 and 1: of the last two the second is by another NUMBER.
+        int[] times = {1, 1, 2, 2, 3, 1, 4, 1};
+        int[] unlike = {2, 4, 4, 4, 4, 6, 6, 8};
+        for (int i = 0; i < messages.length; i++) {
+            Check.message(x, messages[i]);
+            Check.due("step(60)", x.step(60), 2);
+            Check.due("log(1, 5) of " + i, Check.log(x, 1, 5), times[i]);
+            Check.due("log(0, 5) of " + i, Check.log(x, 0, 5), times[i]);
+            Check.due("count(4) of " + i, x.count(4), unlike[i]);
+        }
+        // An older block of the log tells how often by now, not by then.
+        Check.due("log(15, 5)", Check.log(x, 15, 5), 4);
+        Check.due("log(14, 5)", Check.log(x, 14, 5), 4);
+        // They count from reset() on.
+        Check.reset(x, 0x3b, 0);
+        Check.due("count(4)", x.count(4), 0);
+        Check.message(x, 8, 1, 1);
+        x.step(60);
+        Check.due("log(1, 5)", Check.log(x, 1, 5), 1);
+        Check.due("count(4)", x.count(4), 2);
     }
 
     /** Against a count by this test itself, over more unlike blocks than any table begins with. */
