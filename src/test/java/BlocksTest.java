@@ -20,6 +20,7 @@ final class BlocksTest extends Check {
         farthestLetter();
         toldOutOfOrder();
         fullOfFaults();
+        allOfThemCome();
         close();
     }
 
@@ -382,5 +383,22 @@ final class BlocksTest extends Check {
         due("reset()", reset(x, 0x3b, 0), 0);
         count(x, 2, 0);
         due("fault", x.fault(0, 3, 0), 1);
+    }
+
+    /** 24 LOST letters, the first ones, told in any order: six blocks of the reader of which nothing comes, and it is dead. */
+    private static void allOfThemCome() {
+        for (int stride : new int[] {1, 23, 5, 7, 11}) {
+            CardLink x = plainCard();
+            for (int i = 0; i < 24; i++) {
+                due("fault", x.fault((i + 1) * stride % 24, 3, 0), i + 1);
+            }
+            message(x);
+            step(x, 5, 5);
+            count(x, 2, 4);
+            step(x, 60, 1);
+            sent(x, "r0/3 r130/3 r130/3 r192/3 r192/3 r192/3");
+            state(x, 4);
+            count(x, 2, 0);
+        }
     }
 }

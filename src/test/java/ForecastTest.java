@@ -171,6 +171,12 @@ final class ForecastTest {
         Check.message(x, 8, 2);
         would(x, 2, 4, 6 + 4 + 6 + 6, 2);
         harm(x, 2, 0, -1);
+        // An answer that only goes on longer is another one, too.
+        x = Check.plainCard();
+        x.fault(5, 2, 1);
+        Check.message(x, 1, 8);
+        would(x, 2, 4, 6 + 4 + 6 + 12, 8);
+        harm(x, 2, 2, 3);
         // The answer alone comes as another one: of as many bytes.
         x = Check.plainCard();
         x.fault(11, 2, 1);
