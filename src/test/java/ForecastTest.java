@@ -44,6 +44,16 @@ final class ForecastTest {
         Check.due("would(0)", link.would(0), 2);
         Check.due("step(10)", link.step(10), 2);
         Check.due("got(0, NONE)", link.got(0, CardLink.NONE), 25);
+        Check.due("fault(0, 3, 0)", link.fault(0, 3, 0), 1);
+        link.feed(0x0600000000000000L, 0);
+        link.end(1);
+        Check.due("message()", link.message(), 1);
+        Check.due("would(1)", link.would(1), 4);
+        harm(link, 3, 0, -1);
+        Check.due("step(60)", link.step(60), 4);
+        Check.due("log(3, 3)", Check.log(link, 3, 3), 2);
+        Check.due("byteOf(0, 3)", link.byteOf(0, 3), 6);
+        Check.due("count(8)", link.count(8), 2);
     }
 
     private static void wouldBe() {
